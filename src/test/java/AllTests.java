@@ -10,6 +10,8 @@ public final class AllTests {
         ForetoldTests.run();
         ImageTests.run();
         AskTests.run();
+        LanguageTests.run();
+        ModelTests.run();
         System.out.println(Check.summary());
         if (Check.failed() != 0) {
             System.exit(1);

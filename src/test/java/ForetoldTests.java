@@ -174,6 +174,11 @@ final class ForetoldTests {
         dueHigher(x, 1, 0, 0, 0);
         x = Texts.ridgeOf("law 50 0 0; mill water 5 5 2 4 0 900; mill hooded 5 7 2 5 0 900;");
         dueHigher(x, 0, 0, 0, 0);
+        x = Texts.ridgeOf("law 50 0 0; mill hooded 5 5 2 4 0 900; mill hooded 5 7 4 5 0 900;"
+            + "mill hooded 5 3 3 5 0 900;");
+        dueHigher(x, 0, 0, 0, 0);
+        x.build(0);
+        dueHigher(x, 0, 20, 25, 0);
     }
 
     private static void dueHigher(WindTaken x, int mill, int gain, int loss, int felled) {

@@ -19,6 +19,8 @@ final class TextTests {
         noRoom();
         firstToken();
         whatStays();
+        nothingOfTheTapeBefore();
+        nothingOfTheRidgeBefore();
     }
 
     private static void feed() {
@@ -115,6 +117,12 @@ final class TextTests {
     private static void noToken() {
         WindTaken x = new WindTaken();
         fault(x, "Law 30", 0, 1);
+        fault(x, "lawz 30", 0, 1);
+        fault(x, "lawa 30", 0, 1);
+        fault(x, "law{ 30", 3, 1);
+        fault(x, "law` 30", 3, 1);
+        fault(x, "law 3/ 30", 5, 1);
+        fault(x, "law 3: 30", 5, 1);
         fault(x, "law 1000", 4, 1);
         fault(x, "law 0030", 4, 1);
         fault(x, "law 00000000000000000030", 4, 1);
@@ -195,6 +203,55 @@ final class TextTests {
         Check.due("as it was kept", x.count(2), 1);
         fault(x, "law 99", 4, 2);
         Check.due("the latest one", x.fault(), 2);
+    }
+
+    /** The bytes of a longer text that was read are no part of the next one. */
+    private static void nothingOfTheTapeBefore() {
+        WindTaken x = new WindTaken();
+        fault(x, "law 30 20 555", 10, 2);
+        fault(x, "law 30 20 5", 11, 1);
+        fault(x, "law 30 20 5     ", 16, 1);
+        fault(x, "law 30 20 5", 11, 1);
+        fault(x, "lawlawlaw", 0, 1);
+        fault(x, "law", 3, 1);
+        fault(x, LAW + ";;;;", 12, 1);
+        fault(x, LAW, 12, 1);
+    }
+
+    /** The mills of a greater ridge that was read neither take wind nor grind in the next one. */
+    private static void nothingOfTheRidgeBefore() {
+        String one = "law 50 50 0; mill hooded 5 9 1 5 0 900;";
+        WindTaken x = Texts.ridgeOf(one + "mill hooded 5 8 2 1 9 900; mill hooded 5 7 2 2 9 900;");
+        x.image(0);
+        x.hour(2, 100);
+        x.furl(1, 1);
+        Check.due("one in place of three", Texts.read(x, one), 1);
+        dueAlone(x);
+        Texts.rowOf(x, 50);
+        Check.due("one set by night", x.night(0, 100, 1, 0, -1), 1);
+        Check.due("hour", x.hour(0, 100), 50);
+        Check.due("flour", x.count(3), 50);
+        Check.due("restore", x.restore(0), 1);
+        Check.due("three again", x.made(0, 100, 0), 12 + 5 + 20);
+        Texts.read(x, one);
+        Check.due("furled", x.furl(0, 1), 0);
+        Check.due("it alone", x.count(4), 1);
+        x.furl(0, 0);
+        dueAlone(x);
+    }
+
+    private static void dueAlone(WindTaken x) {
+        Check.due("alone: wind", x.left(0, 0, 100, 0), 100);
+        Check.due("alone: behind none", x.left(0, 0, 100, 1), 0);
+        Check.due("alone: made", x.made(0, 100, 0), 50);
+        Check.due("alone: best", x.best(0, 100, 0), 50);
+        Check.due("alone: set", x.best(0, 100, 1), 0);
+        Check.due("alone: part", x.part(0, 100, 0), 0);
+        Check.due("alone: others lose none", x.higher(0, 100, 0, 1), 0);
+        Check.due("alone: years", x.years(1, 1, -1), 32);
+        Check.due("alone: furled ones", x.count(4), 0);
+        Check.due("alone: flour", x.count(3), 0);
+        Check.due("alone: no second", x.kind(1), WindTaken.BAD);
     }
 
     private static String mills(int n) {
