@@ -10,6 +10,14 @@ public final class AllTests {
         ForetoldTests.run();
         ImageTests.run();
         AskTests.run();
+        TermEdges.run();
+        RowEdges.run();
+        TextEdges.run();
+        HourEdges.run();
+        ForetoldEdges.run();
+        ImageEdges.run();
+        AskEdges.run();
+        DocumentTests.run();
         LanguageTests.run();
         ModelTests.run();
         System.out.println(Check.summary());

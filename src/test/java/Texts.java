@@ -39,4 +39,36 @@ final class Texts {
             x.set(0, i, items[i]);
         }
     }
+
+    /**
+     * Whether a row begins with these items, 0 to 999 each, 8 at most: by night just so much corn
+     * is ground. For this a ridge is read.
+     */
+    static boolean begins(WindTaken x, int row, int... items) {
+        StringBuilder text = new StringBuilder("law 0 0 0;");
+        for (int i = 0; i < items.length; i++) {
+            text.append("mill water ").append(i).append(" 0 1 9 0 ").append(items[i]).append(';');
+        }
+        return read(x, text.toString()) == items.length && x.night(0, 0, 24, row, -1) > 0;
+    }
+
+    /** All that the calls tell of the ridge, the tape, the latest fault and the trace; not status(). */
+    static int[] seen(WindTaken x) {
+        int mills = x.count(1);
+        int[] seen = new int[11 * mills + 14];
+        for (int mill = 0; mill < mills; mill++) {
+            for (int what = 0; what < 10; what++) {
+                seen[11 * mill + what] = x.mill(mill, what);
+            }
+            seen[11 * mill + 10] = x.kind(mill);
+        }
+        for (int what = 0; what < 6; what++) {
+            seen[11 * mills + what] = x.count(what);
+        }
+        for (int i = 0; i < 7; i++) {
+            seen[11 * mills + 6 + i] = x.trace(i);
+        }
+        seen[11 * mills + 13] = x.fault();
+        return seen;
+    }
 }
