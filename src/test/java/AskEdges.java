@@ -89,7 +89,8 @@ final class AskEdges {
     }
 
     private static void termsTrace() {
-        Edge e = Edge.ofTerms("ASKS of MILLS, by BODIES, each of which leaves its number in THE TRACE as it begins (the first 16):");
+        Edge e = Edge.ofTerms("ASKS of MILLS, by BODIES, each of which leaves its number in THE TRACE as "
+            + "it begins (the first 16):");
         WindTaken x = five();
         e.none("trace(0), nothing was asked", x.trace(0));
         dueAsk(e, x, IS_HALF, 0, -(5 + 2 * (3 + 40 - 50)), 12, 11, 10, 24, 22, 21, 20);
@@ -130,7 +131,8 @@ final class AskEdges {
     }
 
     private static void termsMarkOfFixedOnes() {
-        Edge e = Edge.ofTerms("1 MARK: 20 lent to all MILLS: its number. 21 of FIXED ones: what 20 gives, and 10 times FLOORS.");
+        Edge e = Edge.ofTerms("1 MARK: 20 lent to all MILLS: its number. 21 of FIXED ones: what 20 gives, "
+            + "and 10 times FLOORS.");
         WindTaken x = five();
         dueAsk(e, x, IS_FIXED, 1, 0 + 20, 21, 20);
         dueAsk(e, x, IS_RUIN, 1, 4 + 50, 21, 20);
@@ -158,7 +160,8 @@ final class AskEdges {
     }
 
     private static void termsNearestKind() {
-        Edge e = Edge.ofTerms("(Of an ask the BODY told for the KIND begins, else that of the nearest KIND that it is, too, "
+        Edge e = Edge.ofTerms("(Of an ask the BODY told for the KIND begins, else that of the nearest KIND "
+            + "that it is, too, "
             + "else the one that is lent;");
         WindTaken x = five();
         dueAsk(e, x, IS_HOODED, 0, 30, 11, 10, 22, 21, 20);
@@ -306,7 +309,8 @@ final class AskEdges {
     }
 
     private static void promise31HowMany() {
-        Edge e = Edge.of(31, "How many: 0 ROWS, 1 MILLS, 2 hours gone, 3 FLOUR in all, 4 furled ones, 5 bytes on the tape.");
+        Edge e = Edge.of(31, "How many: 0 ROWS, 1 MILLS, 2 hours gone, 3 FLOUR in all, 4 furled ones, 5 "
+            + "bytes on the tape.");
         WindTaken x = new WindTaken();
         for (int what = 0; what <= 5; what++) {
             e.due("count(" + what + "), of a new one", x.count(what), 0);

@@ -133,7 +133,8 @@ final class ForetoldEdges {
             e.due("best(0, 100, 1), 55 or " + corn, x.best(0, 100, 1), set);
             e.due("best(0, 100, 0), 55 or " + corn, x.best(0, 100, 0), Math.max(55, corn));
         }
-        WindTaken x = Texts.ridgeOf("law 90 0 0;mill hooded 5 1 1 9 0 999;mill ruin 1 20 1 1 0 0;mill ruin 2 20 1 1 0 0;"
+        WindTaken x = Texts.ridgeOf("law 90 0 0;mill hooded 5 1 1 9 0 999;mill ruin 1 20 1 1 0 0;mill ruin "
+            + "2 20 1 1 0 0;"
             + "mill ruin 3 20 1 1 0 0;mill ruin 4 20 1 1 0 0;mill ruin 6 20 1 1 0 0;mill ruin 7 20 1 1 0 0;"
             + "mill hooded 5 0 1 1 0 99;");
         e.due("the highest bit alone", x.best(0, 100, 1), 128);
@@ -159,7 +160,8 @@ final class ForetoldEdges {
 
     private static void termsLeastAsBits() {
         Edge e = Edge.ofTerms(", then the least as bits: MADE, the set.");
-        WindTaken x = Texts.ridgeOf("law 50 0 0; mill hooded 5 7 1 9 0 45; mill hooded 4 5 1 1 0 99; mill hooded 6 5 1 1 0 99;");
+        WindTaken x = Texts.ridgeOf("law 50 0 0; mill hooded 5 7 1 9 0 45; mill hooded 4 5 1 1 0 99; mill "
+            + "hooded 6 5 1 1 0 99;");
         e.due("made(0, 100, 2)", x.made(0, 100, 2), 10 + 45);
         e.due("made(0, 100, 4)", x.made(0, 100, 4), 10 + 45);
         e.due("best(0, 100, 1), the set", x.best(0, 100, 1), 2);
@@ -172,7 +174,8 @@ final class ForetoldEdges {
     private static void termsPartOfLoss() {
         Edge e = Edge.ofTerms("PART: by the set of FURL g more is MADE than without it: "
             + "of g each MILL gets what it GRINDS less by that set than without it");
-        WindTaken x = Texts.ridgeOf("law 50 0 0; mill hooded 20 20 1 1 0 0; mill hooded 5 5 1 1 0 8; mill hooded 5 6 1 9 0 99;");
+        WindTaken x = Texts.ridgeOf("law 50 0 0; mill hooded 20 20 1 1 0 0; mill hooded 5 5 1 1 0 8; mill "
+            + "hooded 5 6 1 9 0 99;");
         e.due("best(0, 100, 1)", x.best(0, 100, 1), 2);
         e.due("part(0, 100, 1), its corn is 8", x.part(0, 100, 1), 8);
         e.due("part(0, 100, 2)", x.part(0, 100, 2), 0);
@@ -218,7 +221,8 @@ final class ForetoldEdges {
     }
 
     private static void termsStill() {
-        Edge e = Edge.ofTerms("STILL: a MILL furled for another one: how much more that GRINDS, how much less it does itself;");
+        Edge e = Edge.ofTerms("STILL: a MILL furled for another one: how much more that GRINDS, how much "
+            + "less it does itself;");
         WindTaken x = Texts.ridgeOf(THREE);
         e.due("what 1 gains by 0", x.still(0, 100, 0, 1, 0), 50 - 25);
         e.due("what 0 loses", x.still(0, 100, 0, 1, 1), 40);
@@ -268,7 +272,8 @@ final class ForetoldEdges {
 
     private static void termsOthersLose() {
         Edge e = Edge.ofTerms(", how much less all others do together.");
-        WindTaken x = Texts.ridgeOf("law 50 0 0; mill hooded 5 5 8 1 0 99; mill hooded 5 6 9 4 0 99; mill half 5 7 9 8 0 99;");
+        WindTaken x = Texts.ridgeOf("law 50 0 0; mill hooded 5 5 8 1 0 99; mill hooded 5 6 9 4 0 99; mill "
+            + "half 5 7 9 8 0 99;");
         e.due("8 ahead of 9 and 9, 9 ahead of both", x.higher(0, 100, 0, 1), 40 - 20 + 20 - 10);
         e.due("what it gains itself", x.higher(0, 100, 0, 0), 0);
         x.build(0);
@@ -321,7 +326,8 @@ final class ForetoldEdges {
     private static void termsOwesOneBehind() {
         Edge e = Edge.ofTerms("that stands BEHIND it");
         WindTaken x = Texts.ridgeOf("law 50 50 0; mill hooded 5 5 2 1 0 99; mill hooded 5 11 2 4 9 99;"
-            + "mill hooded 5 12 2 4 9 99; mill hooded 6 10 3 4 9 99; mill hooded 7 7 2 4 9 99; mill hooded 5 4 2 4 9 99;");
+            + "mill hooded 5 12 2 4 9 99; mill hooded 6 10 3 4 9 99; mill hooded 7 7 2 4 9 99; mill hooded "
+            + "5 4 2 4 9 99;");
         int[] wanted = {0, 5, 0, 0, 0, 0};
         for (int b = 1; b <= 5; b++) {
             e.due("owes(0, 100, 0, " + b + ")", x.owes(0, 100, 0, b), wanted[b]);
@@ -329,13 +335,17 @@ final class ForetoldEdges {
     }
 
     private static void termsOwesDueTimes() {
-        Edge e = Edge.ofTerms("DUE times (what that would GRIND, if this were furled, less what it GRINDS) by 100; others nothing.");
+        Edge e = Edge.ofTerms("DUE times (what that would GRIND, if this were furled, less what it GRINDS) "
+            + "by 100; others nothing.");
         int[] dues = {0, 1, 2, 4, 5, 9, 10, 49, 50};
         int[] wanted = {0, 0, 0, 0, 1, 1, 2, 9, 10};
         for (int k = 0; k < dues.length; k++) {
-            WindTaken x = Texts.ridgeOf("law 50 " + dues[k] + " 0; mill hooded 5 5 1 1 0 99; mill hooded 5 6 1 4 9 99;");
+            WindTaken x = Texts.ridgeOf("law 50 " + dues[k] + " 0; mill hooded 5 5 1 1 0 99; mill hooded 5 "
+                + "6 1 4 9 99;");
             e.due(dues[k] + " times 20 by 100", x.owes(0, 100, 0, 1), wanted[k]);
         }
+        e.due("11 times 9 by 100", Texts.ridgeOf("law 50 11 0; mill hooded 5 5 1 1 0 99; mill hooded 5 6 1 4 9 29;")
+            .owes(0, 100, 0, 1), 0);
         WindTaken x = Texts.ridgeOf("law 50 50 0; mill hooded 5 5 1 1 0 99; mill hooded 5 6 1 4 9 21;");
         e.due("its corn lets it grind 1 more: 50 by 100", x.owes(0, 100, 0, 1), 0);
         x.bring(1, 1);
@@ -345,7 +355,8 @@ final class ForetoldEdges {
     }
 
     private static void termsNightOfThoseNotFurled() {
-        Edge e = Edge.ofTerms("BY NIGHT: n HOURS of the same wind, in which some of the MILLS that are not furled were:");
+        Edge e = Edge.ofTerms("BY NIGHT: n HOURS of the same wind, in which some of the MILLS that are not "
+            + "furled were:");
         WindTaken x = Texts.ridgeOf(THREE);
         x.furl(1, 1);
         Texts.rowOf(x, 0, 0, 45);
@@ -389,7 +400,8 @@ final class ForetoldEdges {
 
     private static void termsNightTheLeastFirst() {
         Edge e = Edge.ofTerms("how many, the i-th, the least first.");
-        WindTaken x = Texts.ridgeOf("law 0 0 0; mill ruin 0 0 1 1 0 9; mill hooded 9 9 1 5 0 90; mill half 20 20 1 5 0 0;");
+        WindTaken x = Texts.ridgeOf("law 0 0 0; mill ruin 0 0 1 1 0 9; mill hooded 9 9 1 5 0 90; mill half "
+            + "20 20 1 5 0 0;");
         Texts.rowOf(x, 0, 50, 0);
         int[] wanted = {0, 1, 4, 5};
         e.due("how many", x.night(0, 100, 1, 0, -1), wanted.length);
@@ -397,7 +409,8 @@ final class ForetoldEdges {
             e.due("number " + i, x.night(0, 100, 1, 0, i), wanted[i]);
         }
         e.none("number 4", x.night(0, 100, 1, 0, 4));
-        x = Texts.ridgeOf("law 0 0 0;mill ruin 0 0 1 1 0 9;mill ruin 1 0 1 1 0 9;mill ruin 2 0 1 1 0 9;mill ruin 3 0 1 1 0 9;"
+        x = Texts.ridgeOf("law 0 0 0;mill ruin 0 0 1 1 0 9;mill ruin 1 0 1 1 0 9;mill ruin 2 0 1 1 0 9;"
+            + "mill ruin 3 0 1 1 0 9;"
             + "mill ruin 4 0 1 1 0 9;mill ruin 5 0 1 1 0 9;mill ruin 6 0 1 1 0 9;mill ruin 7 0 1 1 0 9;");
         x.row(0, 0, 8);
         e.due("how many of eight ruins", x.night(0, 100, 1, 0, -1), 256);
@@ -437,7 +450,8 @@ final class ForetoldEdges {
 
     private static void termsYearsWithCornWithoutEnd() {
         Edge e = Edge.ofTerms("what all, what one MILL would GRIND in all, with CORN without end, all else as it is.");
-        WindTaken x = Texts.ridgeOf("law 0 0 0; mill water 5 5 1 9 0 0; mill ruin 9 9 9 9 0 999; mill water 0 0 1 1 0 1;");
+        WindTaken x = Texts.ridgeOf("law 0 0 0; mill water 5 5 1 9 0 0; mill ruin 9 9 9 9 0 999; mill "
+            + "water 0 0 1 1 0 1;");
         e.due("one without corn", x.years(1000, 1, 0), 45000);
         e.due("a ruin", x.years(1000, 1, 1), 0);
         e.due("all", x.years(1000, 1, -1), 50000);
@@ -462,7 +476,8 @@ final class ForetoldEdges {
             e.bad("made(0, 100, " + set + ")", x.made(0, 100, set));
         }
         x = Texts.ridgeOf("law 0 0 0;mill water 0 0 1 1 0 9;mill water 1 0 1 1 0 9;mill water 2 0 1 1 0 9;"
-            + "mill water 3 0 1 1 0 9;mill water 4 0 1 1 0 9;mill water 5 0 1 1 0 9;mill water 6 0 1 1 0 9;mill water 7 0 1 1 0 9;");
+            + "mill water 3 0 1 1 0 9;mill water 4 0 1 1 0 9;mill water 5 0 1 1 0 9;mill water 6 0 1 1 0 9;"
+            + "mill water 7 0 1 1 0 9;");
         e.due("eight, none furled", x.made(0, 0, 0), 40);
         e.due("the eighth furled", x.made(0, 0, 128), 35);
         e.due("all furled", x.made(0, 0, 255), 0);
@@ -524,7 +539,8 @@ final class ForetoldEdges {
 
     private static void promise19Part() {
         Edge e = Edge.of(19, "PART of a MILL; NONE.");
-        WindTaken x = Texts.ridgeOf("law 50 0 0; mill hooded 5 6 1 9 0 90; mill hooded 5 5 1 3 0 99; mill ruin 20 20 1 1 0 9;");
+        WindTaken x = Texts.ridgeOf("law 50 0 0; mill hooded 5 6 1 9 0 90; mill hooded 5 5 1 3 0 99; mill "
+            + "ruin 20 20 1 1 0 9;");
         e.due("part(0, 100, 0): g 15, the second loses 30", x.part(0, 100, 0), WindTaken.NONE);
         e.none("part(0, 100, 2), which has none of it", x.part(0, 100, 2));
         e.due("part(0, 0, 0), a calm", x.part(0, 0, 0), 0);
@@ -549,7 +565,8 @@ final class ForetoldEdges {
     }
 
     private static void promise20Still() {
-        Edge e = Edge.of(20, "STILL: a furled for b: what b gains (what = 0), what a loses (1), whether they would deal (2: 1, 0).");
+        Edge e = Edge.of(20, "STILL: a furled for b: what b gains (what = 0), what a loses (1), whether "
+            + "they would deal (2: 1, 0).");
         WindTaken x = Texts.ridgeOf("law 50 0 15; mill hooded 5 6 1 5 0 99; mill hooded 5 5 1 1 0 99;");
         e.due("still(0, 100, 1, 0, 0)", x.still(0, 100, 1, 0, 0), 25);
         e.due("still(0, 100, 1, 0, 1)", x.still(0, 100, 1, 0, 1), 10);
@@ -766,7 +783,8 @@ final class ForetoldEdges {
 
     private static void promise24Flour() {
         Edge e = Edge.of(24, "YEARS: FLOUR of all (mill = -1), of a MILL.");
-        WindTaken x = Texts.ridgeOf("law 0 0 0; mill water 0 0 1 1 0 0; mill water 1 0 1 2 0 0; mill water 2 0 1 3 0 0;");
+        WindTaken x = Texts.ridgeOf("law 0 0 0; mill water 0 0 1 1 0 0; mill water 1 0 1 2 0 0; mill water "
+            + "2 0 1 3 0 0;");
         for (int n : new int[] {1, 2, 999, 1000}) {
             e.due("years(" + n + ", 1, -1)", x.years(n, 1, -1), 30 * n);
             e.due("years(" + n + ", 1, 0)", x.years(n, 1, 0), 5 * n);

@@ -195,7 +195,8 @@ final class HourEdges {
 
     /** Seven ahead of one, of TAKE 0, of 90: 100, 10, 1, and 1 on, as 90 by 100 is cut to 0. */
     private static void termsLessByTake() {
-        Edge e = Edge.ofTerms("for each MILL that it stands BEHIND and that TAKES it becomes less by TAKE times it by 100.");
+        Edge e = Edge.ofTerms("for each MILL that it stands BEHIND and that TAKES it becomes less by TAKE "
+            + "times it by 100.");
         String eight = "mill half 10 10 1 1 0 0;mill half 10 9 1 1 0 0;mill half 10 8 1 1 0 0;mill half 10 7 1 1 0 0;"
             + "mill half 10 6 1 1 0 0;mill half 10 5 1 1 0 0;mill half 10 4 1 1 0 0;mill half 9 9 1 1 0 0;";
         WindTaken x = Texts.ridgeOf("law 90 0 0;" + eight);
@@ -242,7 +243,8 @@ final class HourEdges {
 
     private static void termsWaterGrinds() {
         Edge e = Edge.ofTerms("water: 5 times SAILS, whatever the wind)");
-        WindTaken x = Texts.ridgeOf("law 90 0 0; mill water 5 5 1 9 0 999; mill hooded 5 4 9 1 0 0; mill water 0 0 1 1 0 999;");
+        WindTaken x = Texts.ridgeOf("law 90 0 0; mill water 5 5 1 9 0 999; mill hooded 5 4 9 1 0 0; mill "
+            + "water 0 0 1 1 0 999;");
         e.due("hour(0, 0), a calm", x.hour(0, 0), 45 + 5);
         e.due("hour(0, 100), behind another", x.hour(0, 100), 45 + 5);
         e.due("hour(3, 1)", x.hour(3, 1), 45 + 5);

@@ -9,6 +9,8 @@ final class TermEdges {
     static void run() {
         callsUpTo512();
         numbersFrom0();
+        theEighthMill();
+        noNinthMill();
         cutTowards0();
         setsAreBits();
         firstThatFits();
@@ -58,6 +60,57 @@ final class TermEdges {
         e.due("trace(0), the first BODY", x.trace(0), 22);
     }
 
+    /** Eight beside one another, by 100 of north wind they grind 10, 20 and so on, up to 80. */
+    private static WindTaken eight() {
+        StringBuilder text = new StringBuilder("law 90 50 0;");
+        for (int i = 0; i < 8; i++) {
+            text.append("mill hooded ").append(i).append(" 0 1 ").append(i + 1).append(' ').append(i).append(" 99;");
+        }
+        return Texts.ridgeOf(text.toString());
+    }
+
+    private static void theEighthMill() {
+        Edge e = Edge.ofTerms("MILLS 0 .. 7");
+        WindTaken x = eight();
+        e.due("made(0, 100, 128)", x.made(0, 100, 128), 280);
+        e.due("best(0, 100, 0)", x.best(0, 100, 0), 360);
+        e.due("part(0, 100, 7)", x.part(0, 100, 7), 0);
+        e.due("best(3, 100, 1): the first and the last are out of reach of one another", x.best(3, 100, 1), 126);
+        e.due("best(3, 100, 0)", x.best(3, 100, 0), 10 + 80);
+        e.due("part(3, 100, 1)", x.part(3, 100, 1), 2);
+        e.due("part(3, 100, 7)", x.part(3, 100, 7), 0);
+        e.due("part(3, 100, 0): 90 less 12, less 2", x.part(3, 100, 0), 76);
+        e.due("still(0, 100, 7, 0, 1)", x.still(0, 100, 7, 0, 1), 80);
+        e.due("still(3, 100, 6, 7, 0): 1 is left, or 1", x.still(3, 100, 6, 7, 0), 0);
+        e.due("higher(3, 100, 7, 0)", x.higher(3, 100, 7, 0), 80);
+        e.due("owes(3, 100, 6, 7)", x.owes(3, 100, 6, 7), 0);
+        e.due("hour(0, 100)", x.hour(0, 100), 360);
+        e.due("count(3)", x.count(3), 360);
+        e.due("years(1, 1, -1): (3, 65), 65 is left at the first", x.years(1, 1, -1), 6 + 1);
+        e.due("ask(7, 1)", x.ask(7, 1), 7 + 10 - 7);
+        e.due("as(7, 1)", x.as(7, 1), 7);
+        e.due("face(7, 3)", x.face(7, 3), 0);
+        e.due("build(7)", x.build(7), 2);
+        e.due("bring(7, 999)", x.bring(7, 999), 99 - 80 + 999);
+        e.due("furl(7, 1)", x.furl(7, 1), 0);
+        e.due("count(4)", x.count(4), 1);
+        x.row(0, 0, 8);
+        e.due("night(0, 0, 1, 0, -1)", x.night(0, 0, 1, 0, -1), 128);
+        x.row(0, 0, 7);
+        e.place("night(0, 0, 1, 0, -1), of 7 ITEMS", x.night(0, 0, 1, 0, -1));
+    }
+
+    private static void noNinthMill() {
+        Edge e = Edge.ofTerms("MILLS 0 .. 7, 8 at most).");
+        WindTaken x = eight();
+        int[] refused = {x.furl(8, 0), x.face(8, 0), x.build(8), x.bring(8, 0), x.mill(8, 0), x.left(8, 0, 0, 0),
+            x.part(0, 0, 8), x.still(0, 0, 8, 0, 0), x.still(0, 0, 0, 8, 0), x.higher(0, 0, 8, 0), x.owes(0, 0, 8, 0),
+            x.owes(0, 0, 0, 8), x.years(1, 1, 8), x.kind(8), x.as(8, 0), x.ask(8, 0)};
+        for (int k = 0; k < refused.length; k++) {
+            e.bad("a call of MILL 8, number " + k, refused[k]);
+        }
+    }
+
     private static void cutTowards0() {
         Edge e = Edge.ofTerms("All that is divided is cut towards 0.");
         WindTaken x = Texts.ridgeOf("law 33 33 0; mill hooded 5 5 1 1 1 99; mill half 5 6 1 4 9 99;");
@@ -74,7 +127,8 @@ final class TermEdges {
 
     private static void setsAreBits() {
         Edge e = Edge.ofTerms("Sets are bits.");
-        WindTaken x = Texts.ridgeOf("law 50 0 0; mill water 0 0 1 1 0 99; mill water 1 0 1 2 0 99; mill water 2 0 1 4 0 99;");
+        WindTaken x = Texts.ridgeOf("law 50 0 0; mill water 0 0 1 1 0 99; mill water 1 0 1 2 0 99; mill "
+            + "water 2 0 1 4 0 99;");
         for (int set = 0; set < 8; set++) {
             e.due("made(0, 0, " + set + ")", x.made(0, 0, set), 5 * (7 - set));
         }

@@ -404,6 +404,8 @@ final class TextEdges {
         e.fault("law 00000 0 0;", 4, 1);
         e.fault("law  1234567890123456789012345678901234567890", 5, 1);
         e.fault("1234", 0, 1);
+        e.fault("law 90 1000 0;", 7, 1);
+        e.fault(LAW + "mill ruin 20 20 0001", 28, 1);
         e.fault("law" + "9".repeat(397), 3, 1);
         e.fault(LAW + ONE + " 1234", 36, 1);
         e.fault(LAW + "mill fixed 1 2 3 4 5 999", 36, 1);
@@ -560,7 +562,8 @@ final class TextEdges {
         x.drop(3);
         int[] before = Texts.seen(x);
         before[before.length - 1] = 2;
-        String[] faulty = {"law 91", "law 90 50 100", LAW + "mill ruin 9 9 9 9 99 999", LAW + mills(3) + "mill ruin 0 0",
+        String[] faulty = {"law 91", "law 90 50 100", LAW + "mill ruin 9 9 9 9 99 "
+            + "999", LAW + mills(3) + "mill ruin 0 0",
             "law 9 9 9; mill water 1 1 1 1 1 1; mill ruin 2 2 2 2 100"};
         for (String text : faulty) {
             Texts.read(x, text);
