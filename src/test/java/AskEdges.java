@@ -192,9 +192,7 @@ final class AskEdges {
     private static void promise27Bad() {
         Edge e = Edge.of(27, "BAD.");
         WindTaken x = Texts.ridgeOf(FIVE);
-        for (int mill : NO_MILLS) {
-            e.bad("kind(" + mill + ")", x.kind(mill));
-        }
+        e.badFor("kind(#)", NO_MILLS, mill -> x.kind(mill));
         e.bad("kind(0), no RIDGE", new WindTaken().kind(0));
     }
 
@@ -212,9 +210,7 @@ final class AskEdges {
     private static void promise28Bad() {
         Edge e = Edge.of(28, "BAD; KIND");
         WindTaken x = Texts.ridgeOf(FIVE);
-        for (int mill : NO_MILLS) {
-            e.bad("as(" + mill + ", 0)", x.as(mill, 0));
-        }
+        e.badFor("as(#, 0)", NO_MILLS, mill -> x.as(mill, 0));
         for (int kind : new int[] {-1, 6, LEAST, MOST}) {
             e.bad("as(0, " + kind + ")", x.as(0, kind));
             e.bad("as(5, " + kind + ")", x.as(5, kind));
@@ -248,12 +244,8 @@ final class AskEdges {
     private static void promise29Bad() {
         Edge e = Edge.of(29, "BAD.");
         WindTaken x = Texts.ridgeOf(FIVE);
-        for (int mill : NO_MILLS) {
-            e.bad("ask(" + mill + ", 0)", x.ask(mill, 0));
-        }
-        for (int what : new int[] {-1, 2, LEAST, MOST}) {
-            e.bad("ask(0, " + what + ")", x.ask(0, what));
-        }
+        e.badFor("ask(#, 0)", NO_MILLS, mill -> x.ask(mill, 0));
+        e.badFor("ask(0, #)", new int[] {-1, 2, LEAST, MOST}, what -> x.ask(0, what));
         e.bad("ask(0, 0), no RIDGE", new WindTaken().ask(0, 0));
     }
 
@@ -337,9 +329,7 @@ final class AskEdges {
     private static void promise31Bad() {
         Edge e = Edge.of(31, "BAD.");
         WindTaken x = Texts.ridgeOf(FIVE);
-        for (int what : new int[] {-1, 6, LEAST, MOST}) {
-            e.bad("count(" + what + ")", x.count(what));
-        }
+        e.badFor("count(#)", new int[] {-1, 6, LEAST, MOST}, what -> x.count(what));
         e.bad("count(6), no RIDGE", new WindTaken().count(6));
     }
 }

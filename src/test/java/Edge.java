@@ -1,5 +1,6 @@
 import java.util.ArrayList;
 import java.util.List;
+import java.util.function.IntUnaryOperator;
 
 /**
  * A sentence of ../shared/DOC.md that names a boundary case, and the answers due there: each
@@ -67,6 +68,13 @@ final class Edge {
 
     void bad(String call, int got) {
         due(call, got, -1000001);
+    }
+
+    /** A call that is BAD with each of these numbers; # stands for the number in what is told. */
+    void badFor(String call, int[] numbers, IntUnaryOperator answers) {
+        for (int number : numbers) {
+            bad(call.replace("#", String.valueOf(number)), answers.applyAsInt(number));
+        }
     }
 
     void state(String call, int got) {

@@ -472,26 +472,20 @@ final class ForetoldEdges {
         e.due("made(0, 100, 255)", x.made(0, 100, 255), 0);
         e.due("made(0, 100, 248), of no MILLS", x.made(0, 100, 248), 76);
         e.due("made(0, 100, 128 + 1)", x.made(0, 100, 129), 72);
-        for (int set : new int[] {-1, 256, 257, LEAST, MOST}) {
-            e.bad("made(0, 100, " + set + ")", x.made(0, 100, set));
-        }
-        x = Texts.ridgeOf("law 0 0 0;mill water 0 0 1 1 0 9;mill water 1 0 1 1 0 9;mill water 2 0 1 1 0 9;"
-            + "mill water 3 0 1 1 0 9;mill water 4 0 1 1 0 9;mill water 5 0 1 1 0 9;mill water 6 0 1 1 0 9;"
-            + "mill water 7 0 1 1 0 9;");
-        e.due("eight, none furled", x.made(0, 0, 0), 40);
-        e.due("the eighth furled", x.made(0, 0, 128), 35);
-        e.due("all furled", x.made(0, 0, 255), 0);
+        e.badFor("made(0, 100, #)", new int[] {-1, 256, 257, LEAST, MOST}, set -> x.made(0, 100, set));
+        WindTaken eight = Texts.ridgeOf("law 0 0 0;mill water 0 0 1 1 0 9;mill water 1 0 1 1 0 9;"
+            + "mill water 2 0 1 1 0 9;mill water 3 0 1 1 0 9;mill water 4 0 1 1 0 9;"
+            + "mill water 5 0 1 1 0 9;mill water 6 0 1 1 0 9;mill water 7 0 1 1 0 9;");
+        e.due("eight, none furled", eight.made(0, 0, 0), 40);
+        e.due("the eighth furled", eight.made(0, 0, 128), 35);
+        e.due("all furled", eight.made(0, 0, 255), 0);
     }
 
     private static void promise17Bad() {
         Edge e = Edge.of(17, "BAD; STATE");
         WindTaken x = Texts.ridgeOf(THREE);
-        for (int q : NO_QUARTERS) {
-            e.bad("made(" + q + ", 100, 0)", x.made(q, 100, 0));
-        }
-        for (int w : NO_STRENGTHS) {
-            e.bad("made(0, " + w + ", 0)", x.made(0, w, 0));
-        }
+        e.badFor("made(#, 100, 0)", NO_QUARTERS, q -> x.made(q, 100, 0));
+        e.badFor("made(0, #, 0)", NO_STRENGTHS, w -> x.made(0, w, 0));
     }
 
     private static void promise17State() {
@@ -517,15 +511,9 @@ final class ForetoldEdges {
     private static void promise18Bad() {
         Edge e = Edge.of(18, "BAD; STATE");
         WindTaken x = Texts.ridgeOf(THREE);
-        for (int q : NO_QUARTERS) {
-            e.bad("best(" + q + ", 100, 0)", x.best(q, 100, 0));
-        }
-        for (int w : NO_STRENGTHS) {
-            e.bad("best(0, " + w + ", 0)", x.best(0, w, 0));
-        }
-        for (int what : new int[] {-1, 2, LEAST, MOST}) {
-            e.bad("best(0, 100, " + what + ")", x.best(0, 100, what));
-        }
+        e.badFor("best(#, 100, 0)", NO_QUARTERS, q -> x.best(q, 100, 0));
+        e.badFor("best(0, #, 0)", NO_STRENGTHS, w -> x.best(0, w, 0));
+        e.badFor("best(0, 100, #)", new int[] {-1, 2, LEAST, MOST}, what -> x.best(0, 100, what));
     }
 
     private static void promise18State() {
@@ -552,15 +540,9 @@ final class ForetoldEdges {
     private static void promise19Bad() {
         Edge e = Edge.of(19, "BAD.");
         WindTaken x = Texts.ridgeOf(THREE);
-        for (int q : NO_QUARTERS) {
-            e.bad("part(" + q + ", 100, 0)", x.part(q, 100, 0));
-        }
-        for (int w : NO_STRENGTHS) {
-            e.bad("part(0, " + w + ", 0)", x.part(0, w, 0));
-        }
-        for (int mill : NO_MILLS) {
-            e.bad("part(0, 100, " + mill + ")", x.part(0, 100, mill));
-        }
+        e.badFor("part(#, 100, 0)", NO_QUARTERS, q -> x.part(q, 100, 0));
+        e.badFor("part(0, #, 0)", NO_STRENGTHS, w -> x.part(0, w, 0));
+        e.badFor("part(0, 100, #)", NO_MILLS, mill -> x.part(0, 100, mill));
         e.bad("part(0, 100, 0), no RIDGE", new WindTaken().part(0, 100, 0));
     }
 
@@ -581,19 +563,13 @@ final class ForetoldEdges {
     private static void promise20Bad() {
         Edge e = Edge.of(20, "BAD: alike, too.");
         WindTaken x = Texts.ridgeOf(THREE);
-        for (int q : NO_QUARTERS) {
-            e.bad("still(" + q + ", 100, 0, 1, 0)", x.still(q, 100, 0, 1, 0));
-        }
-        for (int w : NO_STRENGTHS) {
-            e.bad("still(0, " + w + ", 0, 1, 0)", x.still(0, w, 0, 1, 0));
-        }
+        e.badFor("still(#, 100, 0, 1, 0)", NO_QUARTERS, q -> x.still(q, 100, 0, 1, 0));
+        e.badFor("still(0, #, 0, 1, 0)", NO_STRENGTHS, w -> x.still(0, w, 0, 1, 0));
         for (int mill : NO_MILLS) {
             e.bad("still(0, 100, " + mill + ", 1, 0)", x.still(0, 100, mill, 1, 0));
             e.bad("still(0, 100, 0, " + mill + ", 0)", x.still(0, 100, 0, mill, 0));
         }
-        for (int what : new int[] {-1, 3, LEAST, MOST}) {
-            e.bad("still(0, 100, 0, 1, " + what + ")", x.still(0, 100, 0, 1, what));
-        }
+        e.badFor("still(0, 100, 0, 1, #)", new int[] {-1, 3, LEAST, MOST}, what -> x.still(0, 100, 0, 1, what));
     }
 
     private static void promise20Alike() {
@@ -626,18 +602,10 @@ final class ForetoldEdges {
     private static void promise21Bad() {
         Edge e = Edge.of(21, "BAD.");
         WindTaken x = Texts.ridgeOf(THREE);
-        for (int q : NO_QUARTERS) {
-            e.bad("higher(" + q + ", 100, 0, 0)", x.higher(q, 100, 0, 0));
-        }
-        for (int w : NO_STRENGTHS) {
-            e.bad("higher(0, " + w + ", 0, 0)", x.higher(0, w, 0, 0));
-        }
-        for (int mill : NO_MILLS) {
-            e.bad("higher(0, 100, " + mill + ", 0)", x.higher(0, 100, mill, 0));
-        }
-        for (int what : new int[] {-1, 3, LEAST, MOST}) {
-            e.bad("higher(0, 100, 0, " + what + ")", x.higher(0, 100, 0, what));
-        }
+        e.badFor("higher(#, 100, 0, 0)", NO_QUARTERS, q -> x.higher(q, 100, 0, 0));
+        e.badFor("higher(0, #, 0, 0)", NO_STRENGTHS, w -> x.higher(0, w, 0, 0));
+        e.badFor("higher(0, 100, #, 0)", NO_MILLS, mill -> x.higher(0, 100, mill, 0));
+        e.badFor("higher(0, 100, 0, #)", new int[] {-1, 3, LEAST, MOST}, what -> x.higher(0, 100, 0, what));
     }
 
     private static void promise22Owes() {
@@ -658,12 +626,8 @@ final class ForetoldEdges {
     private static void promise22Bad() {
         Edge e = Edge.of(22, "BAD: alike, too.");
         WindTaken x = Texts.ridgeOf(THREE);
-        for (int q : NO_QUARTERS) {
-            e.bad("owes(" + q + ", 100, 0, 1)", x.owes(q, 100, 0, 1));
-        }
-        for (int w : NO_STRENGTHS) {
-            e.bad("owes(0, " + w + ", 0, 1)", x.owes(0, w, 0, 1));
-        }
+        e.badFor("owes(#, 100, 0, 1)", NO_QUARTERS, q -> x.owes(q, 100, 0, 1));
+        e.badFor("owes(0, #, 0, 1)", NO_STRENGTHS, w -> x.owes(0, w, 0, 1));
         for (int mill : NO_MILLS) {
             e.bad("owes(0, 100, " + mill + ", 1)", x.owes(0, 100, mill, 1));
             e.bad("owes(0, 100, 0, " + mill + ")", x.owes(0, 100, 0, mill));
@@ -685,9 +649,7 @@ final class ForetoldEdges {
         e.due("night(0, 0, 1, 0, -1)", x.night(0, 0, 1, 0, -1), 1);
         Texts.rowOf(x, 120);
         e.due("night(0, 0, 24, 0, -1)", x.night(0, 0, 24, 0, -1), 1);
-        for (int n : new int[] {0, 25, -1, LEAST, MOST}) {
-            e.bad("night(0, 0, " + n + ", 0, -1)", x.night(0, 0, n, 0, -1));
-        }
+        e.badFor("night(0, 0, #, 0, -1)", new int[] {0, 25, -1, LEAST, MOST}, n -> x.night(0, 0, n, 0, -1));
     }
 
     private static void promise23HowMany() {
@@ -727,21 +689,11 @@ final class ForetoldEdges {
         Edge e = Edge.of(23, "BAD: q, w, n, ROW, i below -1;");
         WindTaken x = Texts.ridgeOf(THREE);
         x.row(0, 2, 3);
-        for (int q : NO_QUARTERS) {
-            e.bad("night(" + q + ", 0, 1, 0, 0)", x.night(q, 0, 1, 0, 0));
-        }
-        for (int w : NO_STRENGTHS) {
-            e.bad("night(0, " + w + ", 1, 0, 0)", x.night(0, w, 1, 0, 0));
-        }
-        for (int n : new int[] {0, 25, -1, LEAST, MOST}) {
-            e.bad("night(0, 0, " + n + ", 0, 0)", x.night(0, 0, n, 0, 0));
-        }
-        for (int row : new int[] {-1, 8, LEAST, MOST}) {
-            e.bad("night(0, 0, 1, " + row + ", 0)", x.night(0, 0, 1, row, 0));
-        }
-        for (int i : new int[] {-2, LEAST}) {
-            e.bad("night(0, 0, 1, 0, " + i + ")", x.night(0, 0, 1, 0, i));
-        }
+        e.badFor("night(#, 0, 1, 0, 0)", NO_QUARTERS, q -> x.night(q, 0, 1, 0, 0));
+        e.badFor("night(0, #, 1, 0, 0)", NO_STRENGTHS, w -> x.night(0, w, 1, 0, 0));
+        e.badFor("night(0, 0, #, 0, 0)", new int[] {0, 25, -1, LEAST, MOST}, n -> x.night(0, 0, n, 0, 0));
+        e.badFor("night(0, 0, 1, #, 0)", new int[] {-1, 8, LEAST, MOST}, row -> x.night(0, 0, 1, row, 0));
+        e.badFor("night(0, 0, 1, 0, #)", new int[] {-2, LEAST}, i -> x.night(0, 0, 1, 0, i));
         e.bad("night(0, 0, 25, 1, 0), ahead of NULL", x.night(0, 0, 25, 1, 0));
         x.row(2, 2, 2);
         e.bad("night(0, 0, 1, 2, -2), ahead of PLACE", x.night(0, 0, 1, 2, -2));
@@ -797,15 +749,9 @@ final class ForetoldEdges {
         WindTaken x = Texts.ridgeOf("law 0 0 0; mill hooded 0 0 1 1 0 0;");
         e.due("years(1, 1, 0): 65 by 10", x.years(1, 1, 0), 6);
         e.due("years(1, 999999, 0): 28 by 10", x.years(1, 999999, 0), 2);
-        for (int seed : new int[] {0, 1000000, -1, LEAST, MOST}) {
-            e.bad("years(1, " + seed + ", -1)", x.years(1, seed, -1));
-        }
-        for (int n : new int[] {0, 1001, -1, LEAST, MOST}) {
-            e.bad("years(" + n + ", 1, -1)", x.years(n, 1, -1));
-        }
-        for (int mill : new int[] {-2, 1, 8, LEAST, MOST}) {
-            e.bad("years(1, 1, " + mill + ")", x.years(1, 1, mill));
-        }
+        e.badFor("years(1, #, -1)", new int[] {0, 1000000, -1, LEAST, MOST}, seed -> x.years(1, seed, -1));
+        e.badFor("years(#, 1, -1)", new int[] {0, 1001, -1, LEAST, MOST}, n -> x.years(n, 1, -1));
+        e.badFor("years(1, 1, #)", new int[] {-2, 1, 8, LEAST, MOST}, mill -> x.years(1, 1, mill));
     }
 
     private static void promise24State() {

@@ -188,9 +188,7 @@ final class HourEdges {
         for (int w = 0; w <= 100; w++) {
             e.due("left(0, 0, " + w + ", 0)", x.left(0, 0, w, 0), w);
         }
-        for (int w : NO_STRENGTHS) {
-            e.bad("left(0, 0, " + w + ", 0)", x.left(0, 0, w, 0));
-        }
+        e.badFor("left(0, 0, #, 0)", NO_STRENGTHS, w -> x.left(0, 0, w, 0));
     }
 
     /** Seven ahead of one, of TAKE 0, of 90: 100, 10, 1, and 1 on, as 90 by 100 is cut to 0. */
@@ -307,12 +305,8 @@ final class HourEdges {
     private static void promise9Bad() {
         Edge e = Edge.of(9, "BAD.");
         WindTaken x = Texts.ridgeOf(THREE);
-        for (int mill : NO_MILLS) {
-            e.bad("furl(" + mill + ", 1)", x.furl(mill, 1));
-        }
-        for (int is : new int[] {-1, 2, LEAST, MOST}) {
-            e.bad("furl(0, " + is + ")", x.furl(0, is));
-        }
+        e.badFor("furl(#, 1)", NO_MILLS, mill -> x.furl(mill, 1));
+        e.badFor("furl(0, #)", new int[] {-1, 2, LEAST, MOST}, is -> x.furl(0, is));
         e.due("none is furled", x.count(4), 0);
     }
 
@@ -333,9 +327,7 @@ final class HourEdges {
     private static void promise10Bad() {
         Edge e = Edge.of(10, "BAD; STATE");
         WindTaken x = Texts.ridgeOf(THREE);
-        for (int mill : NO_MILLS) {
-            e.bad("face(" + mill + ", 1)", x.face(mill, 1));
-        }
+        e.badFor("face(#, 1)", NO_MILLS, mill -> x.face(mill, 1));
         for (int q : NO_QUARTERS) {
             e.bad("face(0, " + q + ")", x.face(0, q));
             e.bad("face(2, " + q + "), a ruin: ahead of STATE", x.face(2, q));
@@ -367,9 +359,7 @@ final class HourEdges {
     private static void promise11Bad() {
         Edge e = Edge.of(11, "BAD; FULL");
         WindTaken x = Texts.ridgeOf(THREE);
-        for (int mill : NO_MILLS) {
-            e.bad("build(" + mill + ")", x.build(mill));
-        }
+        e.badFor("build(#)", NO_MILLS, mill -> x.build(mill));
     }
 
     private static void promise11Full() {
@@ -389,9 +379,7 @@ final class HourEdges {
         e.due("bring(0, 999)", x.bring(0, 999), 1099);
         e.due("bring(2, 999), to a ruin", x.bring(2, 999), 1098);
         e.due("mill(1, 3)", x.mill(1, 3), 99);
-        for (int n : new int[] {-1, 1000, LEAST, MOST}) {
-            e.bad("bring(0, " + n + ")", x.bring(0, n));
-        }
+        e.badFor("bring(0, #)", new int[] {-1, 1000, LEAST, MOST}, n -> x.bring(0, n));
         e.due("mill(0, 3)", x.mill(0, 3), 1099);
     }
 
@@ -416,9 +404,7 @@ final class HourEdges {
     private static void promise12Bad() {
         Edge e = Edge.of(12, "BAD.");
         WindTaken x = Texts.ridgeOf(THREE);
-        for (int mill : NO_MILLS) {
-            e.bad("bring(" + mill + ", 1)", x.bring(mill, 1));
-        }
+        e.badFor("bring(#, 1)", NO_MILLS, mill -> x.bring(mill, 1));
     }
 
     private static void promise13WhatAllGrind() {
@@ -437,12 +423,8 @@ final class HourEdges {
     private static void promise13Bad() {
         Edge e = Edge.of(13, "BAD; STATE");
         WindTaken x = Texts.ridgeOf(THREE);
-        for (int q : NO_QUARTERS) {
-            e.bad("hour(" + q + ", 50)", x.hour(q, 50));
-        }
-        for (int w : NO_STRENGTHS) {
-            e.bad("hour(0, " + w + ")", x.hour(0, w));
-        }
+        e.badFor("hour(#, 50)", NO_QUARTERS, q -> x.hour(q, 50));
+        e.badFor("hour(0, #)", NO_STRENGTHS, w -> x.hour(0, w));
         e.due("count(2)", x.count(2), 0);
     }
 
@@ -490,9 +472,7 @@ final class HourEdges {
         e.due("count(2)", x.count(2), 1);
         e.due("hours(0, 0, 24)", x.hours(0, 0, 24), 120);
         e.due("count(2)", x.count(2), 25);
-        for (int n : new int[] {0, 25, -1, LEAST, MOST}) {
-            e.bad("hours(0, 0, " + n + ")", x.hours(0, 0, n));
-        }
+        e.badFor("hours(0, 0, #)", new int[] {0, 25, -1, LEAST, MOST}, n -> x.hours(0, 0, n));
         e.due("count(2)", x.count(2), 25);
     }
 
@@ -512,9 +492,7 @@ final class HourEdges {
         Edge e = Edge.of(14, "BAD: ROW, n;");
         WindTaken x = Texts.ridgeOf(THREE);
         x.row(0, 0, 40);
-        for (int row : new int[] {-1, 8, LEAST, MOST}) {
-            e.bad("hours(" + row + ", 0, 1)", x.hours(row, 0, 1));
-        }
+        e.badFor("hours(#, 0, 1)", new int[] {-1, 8, LEAST, MOST}, row -> x.hours(row, 0, 1));
         for (int n : new int[] {-1, 0, 25, LEAST, MOST}) {
             e.bad("hours(0, 0, " + n + ")", x.hours(0, 0, n));
             e.bad("hours(1, 0, " + n + "), ahead of NULL", x.hours(1, 0, n));
@@ -599,12 +577,8 @@ final class HourEdges {
     private static void promise15Bad() {
         Edge e = Edge.of(15, "BAD.");
         WindTaken x = Texts.ridgeOf(THREE);
-        for (int mill : NO_MILLS) {
-            e.bad("mill(" + mill + ", 0)", x.mill(mill, 0));
-        }
-        for (int what : new int[] {-1, 10, LEAST, MOST}) {
-            e.bad("mill(0, " + what + ")", x.mill(0, what));
-        }
+        e.badFor("mill(#, 0)", NO_MILLS, mill -> x.mill(mill, 0));
+        e.badFor("mill(0, #)", new int[] {-1, 10, LEAST, MOST}, what -> x.mill(0, what));
     }
 
     private static void promise16WindLeft() {
@@ -628,32 +602,22 @@ final class HourEdges {
             e.due("left(0, 0, " + w + ", 1)", x.left(0, 0, w, 1), 0);
             e.due("left(0, 2, " + w + ", 1)", x.left(0, 2, w, 1), 2);
         }
-        for (int w : NO_STRENGTHS) {
-            e.bad("left(1, 0, " + w + ", 1)", x.left(1, 0, w, 1));
-        }
+        e.badFor("left(1, 0, #, 1)", NO_STRENGTHS, w -> x.left(1, 0, w, 1));
         x.furl(0, 1);
         e.due("behind a furled one", x.left(1, 0, 0, 1), 1);
-        x = Texts.ridgeOf("law 0 0 0;mill ruin 0 0 1 1 0 0;mill ruin 1 0 1 1 0 0;mill ruin 2 0 1 1 0 0;"
+        WindTaken eight = Texts.ridgeOf("law 0 0 0;mill ruin 0 0 1 1 0 0;mill ruin 1 0 1 1 0 0;mill ruin 2 0 1 1 0 0;"
             + "mill ruin 3 0 1 1 0 0;mill ruin 4 0 1 1 0 0;mill ruin 5 0 1 1 0 0;mill ruin 6 0 1 1 0 0;"
             + "mill ruin 6 1 1 1 0 0;");
-        e.due("all but itself and one at its side", x.left(7, 3, 0, 1), 1 | 2 | 4 | 8 | 16 | 32);
-        e.due("the highest bit", x.left(0, 1, 0, 1), 2 | 4 | 8 | 16 | 32 | 64 | 128);
+        e.due("all but itself and one at its side", eight.left(7, 3, 0, 1), 1 | 2 | 4 | 8 | 16 | 32);
+        e.due("the highest bit", eight.left(0, 1, 0, 1), 2 | 4 | 8 | 16 | 32 | 64 | 128);
     }
 
     private static void promise16Bad() {
         Edge e = Edge.of(16, "BAD.");
         WindTaken x = Texts.ridgeOf(THREE);
-        for (int mill : NO_MILLS) {
-            e.bad("left(" + mill + ", 0, 0, 0)", x.left(mill, 0, 0, 0));
-        }
-        for (int q : NO_QUARTERS) {
-            e.bad("left(0, " + q + ", 0, 0)", x.left(0, q, 0, 0));
-        }
-        for (int w : NO_STRENGTHS) {
-            e.bad("left(0, 0, " + w + ", 0)", x.left(0, 0, w, 0));
-        }
-        for (int what : new int[] {-1, 2, LEAST, MOST}) {
-            e.bad("left(0, 0, 0, " + what + ")", x.left(0, 0, 0, what));
-        }
+        e.badFor("left(#, 0, 0, 0)", NO_MILLS, mill -> x.left(mill, 0, 0, 0));
+        e.badFor("left(0, #, 0, 0)", NO_QUARTERS, q -> x.left(0, q, 0, 0));
+        e.badFor("left(0, 0, #, 0)", NO_STRENGTHS, w -> x.left(0, 0, w, 0));
+        e.badFor("left(0, 0, 0, #)", new int[] {-1, 2, LEAST, MOST}, what -> x.left(0, 0, 0, what));
     }
 }

@@ -49,13 +49,9 @@ final class ImageEdges {
     private static void promise25Bad() {
         Edge e = Edge.of(25, "BAD; STATE");
         WindTaken x = new WindTaken();
-        for (int k : NO_IMAGES) {
-            e.bad("image(" + k + "), ahead of STATE", x.image(k));
-        }
+        e.badFor("image(#), ahead of STATE", NO_IMAGES, k -> x.image(k));
         Texts.read(x, ONE);
-        for (int k : NO_IMAGES) {
-            e.bad("image(" + k + ")", x.image(k));
-        }
+        e.badFor("image(#)", NO_IMAGES, k -> x.image(k));
     }
 
     private static void promise25State() {
@@ -117,15 +113,11 @@ final class ImageEdges {
     private static void promise26Bad() {
         Edge e = Edge.of(26, "BAD; STATE");
         WindTaken x = new WindTaken();
-        for (int k : NO_IMAGES) {
-            e.bad("restore(" + k + "), ahead of STATE", x.restore(k));
-        }
+        e.badFor("restore(#), ahead of STATE", NO_IMAGES, k -> x.restore(k));
         Texts.read(x, ONE);
         x.image(0);
         x.image(1);
-        for (int k : NO_IMAGES) {
-            e.bad("restore(" + k + ")", x.restore(k));
-        }
+        e.badFor("restore(#)", NO_IMAGES, k -> x.restore(k));
     }
 
     private static void promise26State() {

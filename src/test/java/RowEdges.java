@@ -45,9 +45,7 @@ final class RowEdges {
             e.due("row(" + row + ", 0, 1)", x.row(row, 0, 1), 1);
             e.due("count(0)", x.count(0), row + 1);
         }
-        for (int row : NO_ROWS) {
-            e.bad("row(" + row + ", 0, 1)", x.row(row, 0, 1));
-        }
+        e.badFor("row(#, 0, 1)", NO_ROWS, row -> x.row(row, 0, 1));
     }
 
     private static void termsLanes() {
@@ -59,9 +57,7 @@ final class RowEdges {
         e.due("a short becomes 40000", x.set(0, 0, 40000), -25536);
         e.due("row(0, 2, 1)", x.row(0, 2, 1), 1);
         e.due("an int becomes 40000", x.set(0, 0, 40000), 40000);
-        for (int lane : new int[] {-1, 3, LEAST, MOST}) {
-            e.bad("row(0, " + lane + ", 1)", x.row(0, lane, 1));
-        }
+        e.badFor("row(0, #, 1)", new int[] {-1, 3, LEAST, MOST}, lane -> x.row(0, lane, 1));
     }
 
     private static void termsItems() {
@@ -155,9 +151,7 @@ final class RowEdges {
         WindTaken x = new WindTaken();
         x.row(0, 2, 1);
         x.set(0, 0, 7);
-        for (int row : NO_ROWS) {
-            e.bad("row(" + row + ", 2, 1)", x.row(row, 2, 1));
-        }
+        e.badFor("row(#, 2, 1)", NO_ROWS, row -> x.row(row, 2, 1));
         e.bad("row(0, -1, 1)", x.row(0, -1, 1));
         e.bad("row(0, 3, 1)", x.row(0, 3, 1));
         e.bad("row(0, 2, 41)", x.row(0, 2, 41));
@@ -377,9 +371,7 @@ final class RowEdges {
         Edge e = Edge.of(5, "BAD");
         WindTaken x = new WindTaken();
         x.row(0, 0, 1);
-        for (int row : NO_ROWS) {
-            e.bad("drop(" + row + ")", x.drop(row));
-        }
+        e.badFor("drop(#)", NO_ROWS, row -> x.drop(row));
         e.due("none is missing", x.count(0), 1);
     }
 

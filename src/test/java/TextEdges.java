@@ -497,9 +497,7 @@ final class TextEdges {
     private static void promise6Bad() {
         Edge e = Edge.of(6, "BAD: n;");
         WindTaken x = new WindTaken();
-        for (int n : new int[] {0, 9, -1, Integer.MIN_VALUE, Integer.MAX_VALUE}) {
-            e.bad("feed(0, " + n + ")", x.feed(0L, n));
-        }
+        e.badFor("feed(0, #)", new int[] {0, 9, -1, Integer.MIN_VALUE, Integer.MAX_VALUE}, n -> x.feed(0L, n));
         e.due("none came", x.count(5), 0);
         Texts.feed(x, blanks(400));
         e.bad("feed(0, 9), ahead of FULL", x.feed(0L, 9));
