@@ -64,8 +64,7 @@ public final class WindTaken {
     private static final long DRAW_MODULUS = 2147483647L;
 
     private final Row[] rows = new Row[MOST_ROWS];
-    private final Tape tape = new Tape();
-    private final Reader reader = new Reader(tape);
+    private final Reader reader = new Reader();
     private final Ridge ridge = new Ridge();
     private final Ridge draft = new Ridge();
     private final Ridge[] images = new Ridge[IMAGES];
@@ -82,7 +81,7 @@ public final class WindTaken {
             images[k] = new Ridge();
         }
         for (int q = 0; q < QUARTERS; q++) {
-            quarters[q] = new Quarter(ridge, q);
+            quarters[q] = new Quarter();
         }
     }
 
@@ -151,16 +150,16 @@ public final class WindTaken {
         if (!isWithin(n, 1, 8)) {
             return BAD;
         }
-        if (tape.length + n > MOST_BYTES) {
+        if (reader.tape.length + n > MOST_BYTES) {
             return FULL;
         }
-        tape.append(w, n);
-        return tape.length;
+        reader.tape.append(w, n);
+        return reader.tape.length;
     }
 
     public int ridge() {
         int latest = reader.read(draft);
-        tape.length = 0;
+        reader.tape.length = 0;
         if (latest != 0) {
             fault = latest;
             return FAULTS - reader.faultPlace;
@@ -347,7 +346,7 @@ public final class WindTaken {
             // A felled mill grinds nothing: what is made then, the others grind.
             return wind.madeBy(1 << mill) - others;
         }
-        wind.survey(mill);
+        wind.survey(ridge, q, mill);
         int ownThen = wind.grindsBy(mill, 0);
         int othersThen = wind.madeBy(0) - ownThen;
         return what == 0 ? ownThen - own : others - othersThen;
@@ -391,7 +390,7 @@ public final class WindTaken {
             return BAD;
         }
         for (int q = 0; q < QUARTERS; q++) {
-            quarters[q].survey(NOBODY);
+            quarters[q].survey(ridge, q, NOBODY);
         }
         int ground = 0;
         long x = seed;
@@ -461,7 +460,7 @@ public final class WindTaken {
             case 2: return ridge.gone;
             case 3: return ridge.flourInAll();
             case 4: return Integer.bitCount(ridge.furledSet());
-            case 5: return tape.length;
+            case 5: return reader.tape.length;
             default: return BAD;
         }
     }
@@ -522,7 +521,7 @@ public final class WindTaken {
     /** The ridge as it stands now, in wind of a quarter and a strength. */
     private Quarter windOf(int q, int w) {
         Quarter wind = quarters[q];
-        wind.survey(NOBODY);
+        wind.survey(ridge, q, NOBODY);
         wind.blow(w);
         return wind;
     }
@@ -698,17 +697,13 @@ public final class WindTaken {
 
     /** Reads the tape into a draft of a ridge, token by token, up to its first fault. */
     private static final class Reader {
-        private final Tape tape;
+        final Tape tape = new Tape();
         private int token;
         private int start;
         private int end;
         private int number;
         private int fault;
         int faultPlace;
-
-        Reader(Tape tape) {
-            this.tape = tape;
-        }
 
         /** The number of the fault, or 0. */
         int read(Ridge draft) {
@@ -944,24 +939,25 @@ public final class WindTaken {
     }
 
     /**
-     * A ridge in wind of one quarter. It is surveyed and blown upon anew for each call, and
-     * changes nothing of the ridge; a set tells who is furled beside those that are.
+     * A ridge in wind of one quarter. It is surveyed and blown upon anew for each call, as a copy:
+     * what is foretold changes nothing. A set tells who is furled beside those that are.
      */
     private static final class Quarter {
         final int[] behind = new int[MOST_MILLS];
         private final int[] after = new int[MOST_MILLS + 1];
-        private final Ridge ridge;
-        private final int q;
+        private final Ridge ridge = new Ridge();
+        private int q;
         private int turning;
         private int taking;
 
-        Quarter(Ridge ridge, int q) {
-            this.ridge = ridge;
-            this.q = q;
-        }
-
         /** Sees who stands behind whom, turns and takes, one mill (or nobody) a floor higher than it is. */
-        void survey(int raised) {
+        void survey(Ridge seen, int quarter, int raised) {
+            ridge.become(seen);
+            q = quarter;
+            if (ridge.has(raised)) {
+                Mill higher = ridge.mills[raised];
+                higher.floors = Math.min(higher.floors + 1, MOST_FLOORS);
+            }
             turning = 0;
             taking = 0;
             for (int i = 0; i < ridge.count; i++) {
@@ -971,19 +967,16 @@ public final class WindTaken {
                 taking |= one.kind == WATER ? 0 : turns;
                 behind[i] = 0;
                 for (int j = 0; j < ridge.count; j++) {
-                    boolean low = floorsOf(i, raised) <= floorsOf(j, raised);
-                    behind[i] |= bit(low && isShaded(one, ridge.mills[j])) << j;
+                    behind[i] |= bit(isBehind(one, ridge.mills[j])) << j;
                 }
             }
         }
 
-        private int floorsOf(int mill, int raised) {
-            int floors = ridge.mills[mill].floors;
-            return mill == raised ? Math.min(floors + 1, MOST_FLOORS) : floors;
-        }
-
-        /** Whether another one stands 1 to 6 further towards the quarter, 1 at most aside. */
-        private boolean isShaded(Mill one, Mill other) {
+        /** Whether another one stands 1 to 6 further towards the quarter, 1 at most aside, and is no lower. */
+        private boolean isBehind(Mill one, Mill other) {
+            if (other.floors < one.floors) {
+                return false;
+            }
             int east = other.x - one.x;
             int south = other.y - one.y;
             switch (q) {

@@ -19,6 +19,7 @@ public final class AllTests {
         AskEdges.run();
         DocumentTests.run();
         LanguageTests.run();
+        ReadmeTests.run();
         ModelTests.run();
         System.out.println(Check.summary());
         if (Check.failed() != 0) {

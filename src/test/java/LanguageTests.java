@@ -103,6 +103,10 @@ final class LanguageTests {
             for (Method method : one.getDeclaredMethods()) {
                 Check.holds("at most seven parameters: " + method, method.getParameterCount() <= 7);
             }
+            // One that takes nothing can be handed nothing of an object that is being made.
+            for (Constructor<?> constructor : one.getDeclaredConstructors()) {
+                Check.due("parameters of " + constructor, constructor.getParameterCount(), 0);
+            }
         }
     }
 
