@@ -76,12 +76,14 @@ final class ReadmeTests {
         while (finding.find()) {
             due.put(finding.group(2), -1000010 - Integer.parseInt(finding.group(1)));
             String told = row(readme, String.valueOf(due.get(finding.group(2))));
-            Check.holds("README.md, finding " + finding.group(1), told.contains("| a finding, " + finding.group(1) + ":"));
+            String number = finding.group(1);
+            Check.holds("README.md, finding " + number, told.contains("| a finding, " + number + ":"));
         }
         Check.due("README.md, names of answers", due.size(), 9);
         for (Map.Entry<String, Integer> answer : due.entrySet()) {
             String row = row(readme, String.valueOf(answer.getValue()));
-            Check.holds("README.md, " + answer, row.startsWith("| " + answer.getValue() + " | " + answer.getKey() + " |"));
+            String cells = "| " + answer.getValue() + " | " + answer.getKey() + " |";
+            Check.holds("README.md, " + answer, row.startsWith(cells));
         }
     }
 
@@ -113,7 +115,8 @@ final class ReadmeTests {
         int place = form.replaceAll("\\b" + name + "\\b.*", "").replaceAll("[A-Z]+", "1").length();
         for (int v = Math.max(least - 1, 0); v <= Math.min(most + 1, 999); v++) {
             WindTaken x = new WindTaken();
-            int read = Texts.read(x, form.replaceAll("\\b" + name + "\\b", String.valueOf(v)).replaceAll("[A-Z]+", "1"));
+            String text = form.replaceAll("\\b" + name + "\\b", String.valueOf(v)).replaceAll("[A-Z]+", "1");
+            int read = Texts.read(x, text);
             boolean within = v >= least && v <= most;
             Check.due("README.md, a text with " + name + " " + v, read, within ? 1 : -1000100 - place);
             Check.due("README.md, its fault", x.fault(), within ? 0 : 2);
